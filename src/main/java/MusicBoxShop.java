@@ -612,8 +612,7 @@ public final class MusicBoxShop {
         private static final int AT_NOTE_END = 5;
         private static final int AT_SLASH = 6;
         private static final int AT_TIME = 7;
-        private static final int AT_FIRST_OF_CHORD = 8;
-        private static final int AT_TIMES = 9;
+        private static final int AT_TIMES = 8;
 
         private static final int USUAL_WEIGHT = 10;
         private static final int USUAL_TIME = 6;
@@ -706,16 +705,13 @@ public final class MusicBoxShop {
                     takeWeight();
                     break;
                 case AT_NOTE_END:
-                    takeNoteEnd();
+                    takeNoteOfChord();
                     break;
                 case AT_SLASH:
                     state = AT_TIME;
                     break;
                 case AT_TIME:
                     takeTime();
-                    break;
-                case AT_FIRST_OF_CHORD:
-                    takeNoteOfChord();
                     break;
                 case AT_TIMES:
                     takeTimes();
@@ -756,7 +752,7 @@ public final class MusicBoxShop {
                     break;
                 case Tokens.OPEN_CHORD:
                     inChord = true;
-                    state = AT_FIRST_OF_CHORD;
+                    state = AT_NOTE_END;
                     break;
                 case Tokens.OPEN_GROUP:
                     takeGroup();
@@ -831,17 +827,11 @@ public final class MusicBoxShop {
             state = AT_NOTE_END;
         }
 
-        private void takeNoteEnd() {
-            if (tokens.kind() == Tokens.CLOSE_CHORD) {
-                state = AT_SLASH;
-            } else {
-                takeNoteOfChord();
-            }
-        }
-
         private void takeNoteOfChord() {
             if (tokens.kind() == Tokens.LETTER) {
                 beginNote();
+            } else if (tokens.kind() == Tokens.CLOSE_CHORD && score.sounding() > 0) {
+                state = AT_SLASH;
             } else {
                 blameToken(MISPLACED);
             }
