@@ -20,6 +20,9 @@ public final class OracleTest {
         for (int seed = first; seed < first + runs && wrong < 20; seed++) {
             new Run(seed).play();
         }
+        for (int seed = first; seed < first + runs / 20 && wrong < 20; seed++) {
+            new Run(seed).playDense();
+        }
         System.out.println(wrong == 0 ? "all random runs agree" : wrong + " answers disagree");
         if (wrong != 0) {
             System.exit(1);
@@ -96,6 +99,31 @@ public final class OracleTest {
                 step();
             }
             look();
+        }
+
+        /** One long tune of one pitch, as near as can be, with few weights: many choices alike. */
+        void playDense() {
+            int teeth = 1 + upTo(3);
+            for (int k = 0; k < teeth; k++) {
+                due("tooth", shop.tooth(36), model.tooth(36));
+            }
+            StringBuilder text = new StringBuilder();
+            int most = 1 + upTo(3);
+            int weights = 1 + upTo(4);
+            while (text.length() < 790) {
+                text.append("c4*").append(1 + upTo(weights)).append('/').append(1 + upTo(most));
+            }
+            text.setLength(text.lastIndexOf("c"));
+            feedAndRead(text.toString(), 0);
+            for (int n = 0; n < 3; n++) {
+                int ticks = 1 + upTo(teeth == 3 ? 16 : 48);
+                due("rest", shop.rest(ticks) ? 1 : 0, model.rest(ticks) ? 1 : 0);
+                due("fit", shop.fit(0, 0), model.fit(0, 0));
+                due("pin", shop.pin(0, 0), model.pin(0, 0));
+                for (int i = 0; i < model.tune(0, 0); i++) {
+                    due("note(0, " + i + ", 3)", shop.note(0, i, 3), model.note(0, i, 3));
+                }
+            }
         }
 
         void step() {
@@ -294,7 +322,10 @@ public final class OracleTest {
         }
 
         void text(int t) {
-            String text = new Texts(random, scale, style).make();
+            feedAndRead(new Texts(random, scale, style).make(), t);
+        }
+
+        void feedAndRead(String text, int t) {
             latest = text;
             byte[] bytes = new byte[(text.length() + 19) / 20 * 20];
             Arrays.fill(bytes, (byte) 'x');
