@@ -34,6 +34,7 @@ public final class PromiseTest {
         arrange();
         arrangeNone();
         arrangeSpent();
+        arrangeEdges();
         bend();
         silent();
         listen();
@@ -248,6 +249,8 @@ public final class PromiseTest {
         dueFault("(c4) c4", 2, 5);
         dueFault("(", 2, 1);
         dueFault("(()2", 2, 4);
+        dueFault("[]", 2, 1);
+        dueFault("c4[]", 2, 3);
         dueFault("[c4/3]", 2, 3);
         dueFault("[c4 r]", 2, 4);
         dueFault("[c4[d4]]", 2, 3);
@@ -485,6 +488,11 @@ public final class PromiseTest {
         due("beyond the pitches above", shop.fit(1, 24), 0);
         due("beyond the pitches below", shop.fit(1, -24), 0);
         due("at both ends", shop.fit(1, 0), 20);
+        due("keeps at both ends", shop.keeps(1, 0, 0) + shop.keeps(1, 0, 1), 2);
+        due("pin at both ends", shop.pin(1, 0), 2);
+        due("the lowest tooth", note(shop, 1, 0, 3), 4);
+        due("the highest tooth", note(shop, 1, 1, 3), 5);
+        due("best at both ends", shop.best(1), 0);
         due("pins stay", shop.tune(0, 2), 0);
         // The middle one outweighs each of its neighbours, but not both together.
         MusicBoxShop one = shopWith(36);
@@ -545,6 +553,11 @@ public final class PromiseTest {
         due("best(0), size 0", shop.best(0), 0);
         shop.breaks(0, true);
         due("best(0), no tooth", shop.best(0), 0);
+        MusicBoxShop low = shopWith(10);
+        readText(low, 0, "[c1*9 d1]");
+        due("best(0), d1 by 8", low.best(0), 8);
+        readText(low, 0, "[c1*11 d1]");
+        due("best(0), c1 by 10", low.best(0), 10);
         shop.tooth(40);
         due("best(0)", shop.best(0), 2);
     }
@@ -844,6 +857,34 @@ public final class PromiseTest {
         // 64 starts of tune 0, each with 64 of tune 1: 4160 tries are not yet spent.
         shop.tear(0, false);
         due("arrange()", shop.arrange(), -2);
+    }
+
+    private static int triesFor(int pause, String... texts) {
+        MusicBoxShop shop = shopWith(36);
+        shop.rest(pause);
+        for (int t = 0; t < texts.length; t++) {
+            readText(shop, t, texts[t]);
+            shop.pin(t, 0);
+        }
+        return shop.arrange();
+    }
+
+    private static void arrangeEdges() {
+        promise = "20 arrange, edges";
+        due("the 20,000th try is the last", triesFor(1, "(c4/4)10", "(c4/2)8",
+                "r/3 (c4/6)11 r/96 r/96 r/96 r/77 c4"), 20000);
+        due("the 20,001st would be it", triesFor(1,
+                "r/6 (c4/2)6 r/96 r/96 r/96 r/96 r/34 c4",
+                "(c4/2)11 r/96 r/96 r/96 r/96 r/30 c4",
+                "r/8 (c4/5)11 r/96 r/96 r/96 r/96 r/10 c4"), -3);
+        // Pins at 1, 4, .. 64 leave no start of 0 to 63 for one at 0; a tick later 0 is free.
+        due("start 63 crowds too", triesFor(3, "r/1 (c4/3)20 (c4/3)2", "c4"), 1 + 64 + 1 + 1);
+        due("start 63 of the one ahead too", triesFor(3, "c4",
+                "r/1 (c4/3)20 (c4/3)2 (r/96)4 r/28 c4"), -2);
+        // Without the pin at 64 it is free.
+        due("start 63 is free", triesFor(3, "r/1 (c4/3)20 c4", "c4"), 1 + 64);
+        due("start 63 of the one ahead is free", triesFor(3, "c4",
+                "r/1 (c4/3)20 c4 (r/96)4 r/28 c4"), 64 + 63 * 64 + 1);
     }
 
     private static void bend() {
