@@ -201,6 +201,28 @@ public final class CombEdgeTest {
             Bench.due("breaks(" + k + ", false)", shop.breaks(k, false), true);
         }
         Bench.due("tune(0, 7), all mended, one bent", shop.tune(0, 7), 3);
+        // What was broken and is mended is as if it had never been broken.
+        for (int k = 0; k < 3; k++) {
+            int tooth = k;
+            Bench.unchanged("breaks(" + k + ", true) and false", CombEdgeTest::busy, made -> {
+                made.breaks(tooth, true);
+                return Bench.bit(made.breaks(tooth, false));
+            }, 1);
+        }
+        Bench.unchanged("breaks(3, false) and true", CombEdgeTest::busy, made -> {
+            made.breaks(3, false);
+            return Bench.bit(made.breaks(3, true));
+        }, 1);
+        for (int count = 1; count <= 3; count++) {
+            MusicBoxShop mended = new MusicBoxShop();
+            for (int k = 0; k < count; k++) {
+                mended.tooth(36);
+                mended.breaks(k, true);
+                mended.breaks(k, false);
+            }
+            Bench.read(mended, 0, Bench.times("c4/1 ", 5));
+            Bench.due(count + " mended teeth: fit", mended.fit(0, 0), 10 * count);
+        }
     }
 
     private static void breaksRefused() {
@@ -543,6 +565,43 @@ public final class CombEdgeTest {
         shop.breaks(0, true);
         Bench.due("best, no whole tooth", shop.best(0), 0);
         Bench.due("best, no teeth", onlyTune("c4").best(0), 0);
+        bestOfEnds();
+        bestOfTeeth();
+    }
+
+    /** The lowest and the highest PITCH, and the furthest SHIFTS that they have. */
+    private static void bestOfEnds() {
+        MusicBoxShop shop = Bench.shopWith(24);
+        Bench.read(shop, 0, "c1");
+        Bench.due("best, c1 moved up by 24", shop.best(0), 24);
+        shop = Bench.shopWith(25);
+        Bench.read(shop, 0, "c1");
+        Bench.due("best, c1 would be moved up by 25", shop.best(0), 0);
+        shop = Bench.shopWith(63);
+        Bench.read(shop, 0, "d#8");
+        Bench.due("best, d#8 moved down by 24", shop.best(0), -24);
+        shop = Bench.shopWith(62);
+        Bench.read(shop, 0, "d#8");
+        Bench.due("best, d#8 would be moved down by 25", shop.best(0), 0);
+        shop = Bench.shopWith(0, 87);
+        Bench.read(shop, 0, "c#1");
+        Bench.due("best, c#1 moved to the lowest tooth", shop.best(0), -1);
+        Bench.read(shop, 0, "d8");
+        Bench.due("best, d8 moved to the highest tooth", shop.best(0), 1);
+    }
+
+    /** One, two and three TEETH of a PITCH keep so many NOTES at once. */
+    private static void bestOfTeeth() {
+        MusicBoxShop shop = Bench.shopWith(36, 38, 38, 40, 40, 40);
+        Bench.read(shop, 0, "c4/1 c4/1 c4/1 c4");
+        Bench.due("best, three teeth", shop.best(0), 4);
+        shop.breaks(3, true);
+        Bench.due("best, two teeth", shop.best(0), 2);
+        shop.breaks(1, true);
+        Bench.due("best, two teeth further up", shop.best(0), 4);
+        shop.breaks(5, true);
+        Bench.due("best, one tooth", shop.best(0), 0);
+        Bench.due("fit(0, 4)", shop.fit(0, 4), 10);
     }
 
     private static MusicBoxShop onlyTune(String text) {
@@ -575,8 +634,9 @@ public final class CombEdgeTest {
                 + " would be KEPT");
         MusicBoxShop shop = new MusicBoxShop();
         String[] texts = {"", "r", "c4", "c1", "d#8", "c4 c4", "c4/5 c4", "c4 d4", "[c4 d4]",
-            "c4/5 c4/5 c4/5 c4", "c4/3 c4/2 c4", "c4/3 c4/3 c4"};
-        int[] teeth = {0, 0, 1, 1, 1, 1, 2, 2, 2, 2, 3, 2};
+            "c4/5 c4/5 c4/5 c4", "c4/3 c4/2 c4", "c4/3 c4/3 c4", "c4 c4/5 c4", "c4 c4 c4/1 c4/1 c4",
+            "c4 c4 c4/1 c4/1 c4/1 c4", "c4/1 c4/1 c4 c4 c4", "c4/1 c4/5 c4/1 c4/5 c4/1 c4"};
+        int[] teeth = {0, 0, 1, 1, 1, 1, 2, 2, 2, 2, 3, 2, 2, 3, -2, 3, 2};
         for (int n = 0; n < texts.length; n++) {
             Bench.read(shop, 0, texts[n]);
             Bench.due("fewest of " + texts[n], shop.fewest(0), teeth[n]);

@@ -130,6 +130,8 @@ public final class CylinderEdgeTest {
             Bench.due("faults()", shop.faults(), 0);
             Bench.due("listen()", shop.listen(), 0);
             Bench.due("plucks(0, 0)", shop.plucks(0, 0), -2);
+            Bench.due("comb(0, 2)", shop.comb(0, 2), 0);
+            Bench.due("arrange()", shop.arrange(), 0);
             if (again == 1) {
                 Bench.read(shop, 5, "c4 c4");
             }
@@ -451,6 +453,16 @@ public final class CylinderEdgeTest {
         Bench.due("bent, silent and broken ones too", five.arrange(), 7);
         Bench.due("bent still", Bench.note(five, 5, 0, 6), 1);
         Bench.due("silent still", Bench.note(five, 4, 0, 5), 1);
+        // What CROWDED before, but does no more, has no part.
+        five.breaks(0, false);
+        Bench.read(five, 5, "d4");
+        five.pin(5, 0);
+        Bench.due("tune 5 on another tooth", five.arrange(), 3);
+        Bench.read(five, 5, "c4");
+        five.pin(5, 0);
+        Bench.due("tune 5 on its tooth again", five.arrange(), 7);
+        five.tear(4, false);
+        Bench.due("tune 4 pinned no more", five.arrange(), 1 + 3);
     }
 
     private static void arrangeLastStart() {
@@ -829,11 +841,16 @@ public final class CylinderEdgeTest {
             Bench.due("silent", shop.silent(note[0], note[1], true), true);
         }
         int[][] all = {{1, -1, -1}, {2, -1, -1}, {-1, 0, 1}, {-1, 1, 3}};
-        Bench.due("faults()", shop.faults(), 4);
         for (int k = 0; k < 4; k++) {
             Bench.due("suspect(" + k + ")", Bench.suspect(shop, k), all[k]);
         }
         Bench.due("suspect(4)", Bench.suspect(shop, 4), -2, -2, -2);
+        Bench.due("faults()", shop.faults(), 4);
+        // Each answer is of now, whatever was asked before.
+        shop.silent(1, 2, false);
+        Bench.due("suspect(1), one less", Bench.suspect(shop, 1), -1, 0, 1);
+        shop.tear(0, false);
+        Bench.due("suspect(0), one torn", Bench.suspect(shop, 0), -1, 1, 0);
     }
 
     private static void suspectRefused() {

@@ -70,6 +70,11 @@ public final class LanguageTest {
         if (!found.equals(new TreeSet<>(Arrays.asList(FACE)))) {
             fail("the face is " + found);
         }
+        for (Class<?> nested : shop.getDeclaredClasses()) {
+            for (Method method : nested.getDeclaredMethods()) {
+                privates.add(method.getName());
+            }
+        }
         for (String line : FACE) {
             String name = line.substring(line.indexOf(' ') + 1, line.indexOf('('));
             if (privates.contains(name)) {

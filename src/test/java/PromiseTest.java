@@ -1029,13 +1029,14 @@ public final class PromiseTest {
     /** Whatever the arguments are, nothing but NoSuchElementException of note() is thrown. */
     private static void wildArguments() {
         promise = "wild arguments";
-        MusicBoxShop shop = shopWith(36, 36, 38);
-        readText(shop, 0, "(c4/1 [c4 d4]/2)9");
-        shop.pin(0, 0);
         int[] wild = {Integer.MIN_VALUE, Integer.MIN_VALUE + 1, -481, -151, -61, -25, -7, -2, -1, 0,
             1, 5, 6, 24, 25, 59, 60, 63, 64, 88, 149, 150, 151, 479, 480, 800, 801,
             Integer.MAX_VALUE - 1, Integer.MAX_VALUE};
         for (int a : wild) {
+            // A new one each time, as no object is used for more than 512 calls.
+            MusicBoxShop shop = shopWith(36, 36, 38);
+            readText(shop, 0, "(c4/1 [c4 d4]/2)9");
+            shop.pin(0, 0);
             shop.fault(a);
             shop.comb(0, a);
             shop.comb(a, 2);
@@ -1061,7 +1062,7 @@ public final class PromiseTest {
             if (a != 0) {
                 due("read(" + a + ", " + a + ")", shop.read(a, a), -1);
             }
+            due("the tune stays", shop.tune(0, 0), 27);
         }
-        due("the tune stays", shop.tune(0, 0), 27);
     }
 }

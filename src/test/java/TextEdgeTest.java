@@ -6,6 +6,7 @@ public final class TextEdgeTest {
 
     public static void main(String[] args) {
         newObject();
+        lastCall();
         feedFull();
         feedOrder();
         readCounts();
@@ -90,6 +91,26 @@ public final class TextEdgeTest {
         Bench.due("read(1, 0)", shop.read(1, 0), -1);
         Bench.due("feed", shop.feed(0, 0, 0, 0, 0), 20);
         Bench.due("tooth(0)", shop.tooth(0), 0);
+    }
+
+    private static void lastCall() {
+        Bench.sentence("An object is used for at most 512 calls after it has been made");
+        MusicBoxShop shop = new MusicBoxShop();
+        int calls = 0;
+        for (int k = 0; k < 60; k++) {
+            calls++;
+            Bench.due("tooth", shop.tooth(20 + k), k);
+        }
+        for (int n = 0; n < 150; n++) {
+            calls += 3;
+            Bench.due("feed", shop.feed(0x63342064, 0x34206534, 0x20663420, 0x67342061, 0x34206234),
+                    20);
+            Bench.due("read", shop.read(20, n % 6), 7);
+            Bench.due("pin", shop.pin(n % 6, 0), 7);
+        }
+        Bench.due("call 511: crowds()", shop.crowds(), 5 * 7);
+        Bench.due("call 512: arrange()", shop.arrange(), 3 * (1 + 3));
+        Bench.due("calls ahead of these", calls, 510);
     }
 
     /** 800 bytes, 200 of them NOTES or pauses, which no other order of the bytes would give. */
