@@ -22,6 +22,7 @@ public final class OracleTest {
         }
         for (int seed = first; seed < first + runs / 20 && wrong < 20; seed++) {
             new Run(seed).playDense();
+            new Run(seed).playFull();
         }
         System.out.println(wrong == 0 ? "all random runs agree" : wrong + " answers disagree");
         if (wrong != 0) {
@@ -103,10 +104,6 @@ public final class OracleTest {
 
         /** One long tune of one pitch, as near as can be, with few weights: many choices alike. */
         void playDense() {
-            int teeth = 1 + upTo(3);
-            for (int k = 0; k < teeth; k++) {
-                due("tooth", shop.tooth(36), model.tooth(36));
-            }
             StringBuilder text = new StringBuilder();
             int most = 1 + upTo(3);
             int weights = 1 + upTo(4);
@@ -114,7 +111,31 @@ public final class OracleTest {
                 text.append("c4*").append(1 + upTo(weights)).append('/').append(1 + upTo(most));
             }
             text.setLength(text.lastIndexOf("c"));
-            feedAndRead(text.toString(), 0);
+            choose(text.toString());
+        }
+
+        /** As many NOTES of one pitch as a TUNE can have. */
+        void playFull() {
+            StringBuilder text = new StringBuilder();
+            int most = 1 + upTo(3);
+            int weights = 1 + upTo(3);
+            for (int i = 0; i < 150; i++) {
+                // The text has bytes enough for a WEIGHT of two of five NOTES.
+                text.append("c4").append(upTo(5) < 2 ? "*" + (8 + upTo(weights)) : "");
+                text.append('/').append(1 + upTo(most));
+            }
+            if (text.length() <= 800) {
+                choose(text.toString());
+                due("tune(0, 0)", shop.tune(0, 0), 150);
+            }
+        }
+
+        void choose(String text) {
+            int teeth = 1 + upTo(3);
+            for (int k = 0; k < teeth; k++) {
+                due("tooth", shop.tooth(36), model.tooth(36));
+            }
+            feedAndRead(text, 0);
             for (int n = 0; n < 3; n++) {
                 int ticks = 1 + upTo(teeth == 3 ? 16 : 48);
                 due("rest", shop.rest(ticks) ? 1 : 0, model.rest(ticks) ? 1 : 0);

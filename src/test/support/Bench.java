@@ -1,9 +1,10 @@
 import java.util.ArrayList;
+import java.util.Arrays;
 import java.util.List;
 import java.util.NoSuchElementException;
 
 /**
- * What the edge tests share: answers that are due, texts on the tape, and a look at all that can be
+ * What tests share: answers that are due, texts on the tape, and a look at all that can be
  * seen of a shop, by which a refused call is known to have changed nothing.
  *
  * <p>A look asks far more than 512 questions, so it makes the shop anew by the same steps for every
@@ -51,8 +52,8 @@ final class Bench {
             same = got[i] == want[i];
         }
         if (!same) {
-            fail(call + " answered " + java.util.Arrays.toString(got) + ", due is "
-                    + java.util.Arrays.toString(want));
+            fail(call + " answered " + Arrays.toString(got) + ", due is "
+                    + Arrays.toString(want));
         }
     }
 
@@ -64,7 +65,7 @@ final class Bench {
     }
 
     static void end() {
-        System.out.println(wrong == 0 ? "all edges hold" : wrong + " answers are not as due");
+        System.out.println(wrong == 0 ? "all answers are as due" : wrong + " answers are not as due");
         if (wrong != 0) {
             System.exit(1);
         }
@@ -215,10 +216,10 @@ final class Bench {
         }
         MusicBoxShop reader = made(steps);
         reader.read(bytes, 5);
-        all.add("tape ticks " + java.util.Arrays.toString(notes(reader, 5, 0)));
+        all.add("tape ticks " + Arrays.toString(notes(reader, 5, 0)));
         reader = made(steps);
         reader.read(bytes, 5);
-        all.add("tape pitches " + java.util.Arrays.toString(notes(reader, 5, 1)));
+        all.add("tape pitches " + Arrays.toString(notes(reader, 5, 1)));
     }
 
     /** REST is the least number of TICKS apart at which one TOOTH is enough for two NOTES. */
@@ -285,12 +286,12 @@ final class Bench {
         all.add("choice " + t + ": best " + shop.best(t) + ", fewest " + shop.fewest(t)
                 + ", fits" + fits);
         shop = made(steps);
-        all.add("choice " + t + ": keeps " + java.util.Arrays.toString(keeps(shop, t, 0)));
+        all.add("choice " + t + ": keeps " + Arrays.toString(keeps(shop, t, 0)));
     }
 
     private static void lookAtCrowds(Steps steps, List<String> all) {
         MusicBoxShop shop = made(steps);
-        all.add("crowds " + shop.crowds() + " " + java.util.Arrays.toString(crowd(shop)));
+        all.add("crowds " + shop.crowds() + " " + Arrays.toString(crowd(shop)));
     }
 
     private static void lookAtFaults(Steps steps, List<String> all) {
@@ -298,12 +299,12 @@ final class Bench {
         int count = shop.faults();
         all.add("faults " + count);
         for (int k = 0; k < count && k < 100; k++) {
-            all.add("faults " + k + ": " + java.util.Arrays.toString(suspect(shop, k)));
+            all.add("faults " + k + ": " + Arrays.toString(suspect(shop, k)));
         }
     }
 
     private static void lookAtStarts(Steps steps, List<String> all) {
         MusicBoxShop shop = made(steps);
-        all.add("arrange " + shop.arrange() + " " + java.util.Arrays.toString(starts(shop)));
+        all.add("arrange " + shop.arrange() + " " + Arrays.toString(starts(shop)));
     }
 }
