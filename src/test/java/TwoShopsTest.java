@@ -82,6 +82,9 @@ public final class TwoShopsTest {
         }
         Bench.due("one's is broken", one.breaks(59, true), true);
         Bench.due("the other's is whole", other.comb(59, 1), 1);
+        Bench.due("a tune of the other", Bench.read(other, 0, "c1 a#1"), 2);
+        Bench.due("teeth of one pluck nothing of the other", other.fit(0, 0), 10);
+        Bench.due("nor would they with a shift", other.fit(0, -10), 0);
     }
 
     /** Three runs of calls one by one, then the same calls on three objects in turns. */
